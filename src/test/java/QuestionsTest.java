@@ -13,6 +13,7 @@ public final class QuestionsTest {
         fewestMovesWithoutAWay();
         placesWithin();
         bestOutrigger();
+        bestOutriggerByOneMetre();
         bestOutriggerOfThoseThatCanBeDrawn();
         meanLoad();
         digest();
@@ -38,6 +39,10 @@ public final class QuestionsTest {
         c.asks("isSafeWith(10, 0, 6)", () -> x.isSafeWith(10, 0, 6), true);
         c.asks("isSafeWith(10, 0, 7)", () -> x.isSafeWith(10, 0, 7), false);
         c.asks("isSafeWith(10, 7, 7)", () -> x.isSafeWith(10, 7, 7), true);
+        // 7 * (13 * 7 - 20) - 2 * (4 * 7 + 20) - 400 = 1.
+        x.setLimit(13, 60);
+        x.setPlates(1);
+        c.asks("isSafeWith(7, 1, 13), with a strain of just 1", () -> x.isSafeWith(7, 1, 13), false);
     }
 
     private static void isSafeWithoutLoadOverThePlates() {
@@ -140,6 +145,11 @@ public final class QuestionsTest {
         c.asks("platesNeeded(10, 0, 9), with more on it", () -> x.platesNeeded(10, 0, 9), 3);
         c.asks("platesNeeded(0, 0, 3), with more on it", () -> x.platesNeeded(0, 0, 3), 0);
         c.asks("platesNeeded(60, 0, 30)", () -> x.platesNeeded(60, 0, 30), -1);
+        x.setLimit(30, 60);
+        // 6 * (210 - 20) - 96 * plates - 400.
+        c.asks("platesNeeded(6, 1, 30), with a limit of 60", () -> x.platesNeeded(6, 1, 30), 8);
+        x.bestOutrigger(5);
+        c.asks("platesNeeded(10, 6, 9), when a farther outrigger was asked of", () -> x.platesNeeded(10, 6, 9), 3);
     }
 
     private static void fewestMoves() {
@@ -243,6 +253,23 @@ public final class QuestionsTest {
             y.lift(8);
             d.asks("bestOutrigger(8) under a load, narrow side " + side, () -> y.bestOutrigger(8), best);
         }
+    }
+
+    /** By 1, north and south gain a place each; by 2, south would gain two. */
+    private static void bestOutriggerByOneMetre() {
+        CraneReach x = new CraneReach();
+        Check c = new Check("promise 27", x);
+        x.setOutrigger(0, 1);
+        x.setOutrigger(1, 2);
+        x.setLimit(13, 60);
+        x.swing(1, true);
+        x.stretch(10, true);
+        c.asks("placesWithin(8)", () -> x.placesWithin(8), 2);
+        c.asks("bestOutrigger(8)", () -> x.bestOutrigger(8), 0);
+        c.does("setOutrigger(2, 1)", () -> x.setOutrigger(2, 1), 0);
+        c.asks("placesWithin(8), with south out by 1", () -> x.placesWithin(8), 3);
+        c.does("setOutrigger(2, 2)", () -> x.setOutrigger(2, 2), 1);
+        c.asks("placesWithin(8), with south out by 2", () -> x.placesWithin(8), 4);
     }
 
     private static void bestOutriggerOfThoseThatCanBeDrawn() {

@@ -5,10 +5,13 @@ public final class SettingsTest {
         objectsAreApart();
         setPlates();
         setPlatesUnderLoad();
+        setPlatesBehindAQuestion();
         setOutrigger();
         setOutriggerRefused();
+        setOutriggerBehindAQuestion();
         setLimit();
         setLimitUnderLoad();
+        setPlatesBehindARefusedLimit();
         Check.close();
     }
 
@@ -80,6 +83,15 @@ public final class SettingsTest {
         c.asks("plates()", x::plates, 12);
     }
 
+    /** The question tried the west outrigger farther out, over which side the plates hang. */
+    private static void setPlatesBehindAQuestion() {
+        CraneReach x = new CraneReach();
+        Check c = new Check("promise 2", x);
+        x.swing(2, true);
+        x.bestOutrigger(5);
+        c.asks("setPlates(11), with a strain of 40 to the west", () -> x.setPlates(11), Check.STATE);
+    }
+
     private static void setOutrigger() {
         CraneReach x = new CraneReach();
         Check c = new Check("promise 3", x);
@@ -123,6 +135,16 @@ public final class SettingsTest {
         c.does("setOutrigger(2, 6)", () -> x.setOutrigger(2, 6), 1);
     }
 
+    /** The question tried the crane without plates, which hang over the south side. */
+    private static void setOutriggerBehindAQuestion() {
+        CraneReach x = new CraneReach();
+        Check c = new Check("promise 3", x);
+        x.setOutrigger(2, 1);
+        x.setPlates(12);
+        x.platesNeeded(0, 0, 3);
+        c.asks("setOutrigger(2, 0), over whose side the plates tip it", () -> x.setOutrigger(2, 0), Check.STATE);
+    }
+
     private static void setLimit() {
         CraneReach x = new CraneReach();
         Check c = new Check("promise 4", x);
@@ -155,5 +177,19 @@ public final class SettingsTest {
         c.does("setLimit(3, 5), just the load", () -> x.setLimit(3, 5), 30);
         c.does("setLimit(4, 0), where it does not reach now", () -> x.setLimit(4, 0), 22);
         c.does("setLimit(3, 60)", () -> x.setLimit(3, 60), 5);
+    }
+
+    /** The refused limit would not let the load hang there, whatever else is tried. */
+    private static void setPlatesBehindARefusedLimit() {
+        for (int metres : new int[] {0, 27}) {
+            CraneReach x = new CraneReach();
+            Check c = new Check("promise 4", x);
+            int reach = 3 + metres;
+            x.lift(1);
+            c.does("stretch(" + metres + ", true)", () -> metres == 0 ? 0 : x.stretch(metres, true), metres);
+            c.asks("setLimit(" + reach + ", 0), under the load", () -> x.setLimit(reach, 0), Check.STATE);
+            c.asks("platesNeeded(1, 0, " + reach + ")", () -> x.platesNeeded(1, 0, reach), 0);
+            c.does("setPlates(1)", () -> x.setPlates(1), 0);
+        }
     }
 }
