@@ -485,7 +485,7 @@ public final class CraneReach {
             if (place < 0 || place >= moves.length || moves[place] != NONE) {
                 return;
             }
-            if (places < found.length && rig.isSafe(tons, to, metres)) {
+            if (places >= 0 && places < found.length && rig.isSafe(tons, to, metres)) {
                 moves[place] = count;
                 found[places] = place;
                 places++;

@@ -51,6 +51,8 @@ public final class FaceTest {
             Check.compare("whether " + field.getName() + " is private", String.valueOf(isPrivate(field)), "true");
         }
         privateNamesAreNoPublicOnes();
+        nothingIsInherited();
+        classesInsideAreNotShown();
         Check.close();
     }
 
@@ -90,6 +92,22 @@ public final class FaceTest {
                 Check.compare("whether a public method is named " + method.getName(),
                     String.valueOf(shown.contains(method.getName())), "false");
             }
+        }
+    }
+
+    private static void nothingIsInherited() {
+        Check.compare("the class above", CraneReach.class.getSuperclass().getName(), "java.lang.Object");
+        Check.compare("the interfaces", Arrays.toString(CraneReach.class.getInterfaces()), "[]");
+        Check.compare("the package", CraneReach.class.getPackageName(), "");
+    }
+
+    private static void classesInsideAreNotShown() {
+        for (Class<?> inside : CraneReach.class.getDeclaredClasses()) {
+            int modifiers = inside.getModifiers();
+            Check.compare("whether " + inside.getName() + " is public or protected",
+                String.valueOf(Modifier.isPublic(modifiers) || Modifier.isProtected(modifiers)), "false");
+            Check.compare("whether " + inside.getName() + " is static",
+                String.valueOf(Modifier.isStatic(modifiers)), "true");
         }
     }
 

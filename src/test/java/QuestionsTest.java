@@ -356,9 +356,9 @@ public final class QuestionsTest {
     }
 
     private static void wrongDirections() {
-        CraneReach x = new CraneReach();
-        Check c = new Check("promises 20 to 25", x);
         for (int direction : NO_DIRECTIONS) {
+            CraneReach x = new CraneReach();
+            Check c = new Check("promises 20 to 25", x);
             for (int load : new int[] {0, 60, -1, 61}) {
                 String told = "(" + load + ", " + direction + ", ..)";
                 c.asks("farthestReach" + told, () -> x.farthestReach(load, direction), Check.INDEX);
@@ -372,9 +372,9 @@ public final class QuestionsTest {
     }
 
     private static void wrongReaches() {
-        CraneReach x = new CraneReach();
-        Check c = new Check("promises 20 to 25", x);
         for (int reach : NO_REACHES) {
+            CraneReach x = new CraneReach();
+            Check c = new Check("promises 20 to 25", x);
             for (int load : new int[] {0, 60, -1, 61}) {
                 String told = "(" + load + ", .. " + reach + ")";
                 c.asks("isSafeWith" + told, () -> x.isSafeWith(load, 7, reach), Check.ARGUMENT);
