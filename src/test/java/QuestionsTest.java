@@ -11,6 +11,7 @@ public final class QuestionsTest {
         fewestMoves();
         fewestMovesAroundWhatTips();
         fewestMovesWithoutAWay();
+        plansBehindAQuestion();
         placesWithin();
         bestOutrigger();
         bestOutriggerByOneMetre();
@@ -198,6 +199,15 @@ public final class QuestionsTest {
         x.setLimit(3, 2);
         c.asks("fewestMoves(3, 0, 4), safe but for now", () -> x.fewestMoves(3, 0, 4), -1);
         c.asks("fewestMoves(2, 0, 4)", () -> x.fewestMoves(2, 0, 4), 1);
+    }
+
+    /** The question tried twelve plates, which would tip the crane without a load. */
+    private static void plansBehindAQuestion() {
+        CraneReach x = new CraneReach();
+        Check c = new Check("promises 25 and 26", x);
+        c.asks("platesNeeded(60, 0, 30), more than there are", () -> x.platesNeeded(60, 0, 30), -1);
+        c.asks("fewestMoves(0, 0, 4)", () -> x.fewestMoves(0, 0, 4), 1);
+        c.asks("placesWithin(0)", () -> x.placesWithin(0), 224);
     }
 
     private static void placesWithin() {
